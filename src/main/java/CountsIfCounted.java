@@ -537,7 +537,7 @@ public final class CountsIfCounted {
 
     private static boolean isUnder(int kind, int k) {
         int at = kind;
-        for (int i = 0; i < KINDS && isKind(at); i++) {
+        for (int i = 0; i < KINDS && at >= 0 && at < ABOVE.length; i++) {
             if (at == k) {
                 return true;
             }
@@ -704,30 +704,31 @@ public final class CountsIfCounted {
         }
 
         private int makes(int who) {
+            if (kind[who] == BLIND) {
+                return seen[who] >= number[who] ? ONE : 0;
+            }
+            return bound(makesUnbound(who, byRule(COUNTS_PART, who)), 0, MOST_MADE);
+        }
+
+        /** An ENEMY's is 0 at least by its own words, so a WIDOW's 6 come on top of that. */
+        private int makesUnbound(int who, int counts) {
             switch (kind[who]) {
-                case TWIN: return bound(shared(who), 0, MOST_MADE);
-                case CHILD: return bound(2 * shared(who), 0, MOST_MADE);
-                case ENEMY: return bound(spited(who), 0, MOST_MADE);
-                case WIDOW: return bound(spited(who) + (isAlone(who) ? 6 : 0), 0, MOST_MADE);
-                case BLIND: return seen[who] >= number[who] ? ONE : 0;
-                default: return byRule(COUNTS_PART, who);
+                case TWIN: return shared(counts, house[who]);
+                case CHILD: return 2 * shared(counts, house[who]);
+                case ENEMY: return Math.max(0, counts - number[who]);
+                case WIDOW: return Math.max(0, counts - number[who]) + (isAlone(who) ? 6 : 0);
+                default: return counts;
             }
         }
 
-        /** A TWIN's, ahead of the bounds that are laid once. */
-        private int shared(int who) {
+        private int shared(int counts, int which) {
             int twins = 0;
             for (int i = 0; i < people; i++) {
-                if (house[i] == house[who] && isUnder(kind[i], TWIN)) {
+                if (house[i] == which && isUnder(kind[i], TWIN)) {
                     twins++;
                 }
             }
-            return twins == 0 ? 0 : byRule(COUNTS_PART, who) / twins;
-        }
-
-        /** An ENEMY's: 0 at least by its own words, so a WIDOW's 6 come on top of that. */
-        private int spited(int who) {
-            return Math.max(0, byRule(COUNTS_PART, who) - number[who]);
+            return twins == 0 ? 0 : counts / twins;
         }
 
         /** By what it MADE him, which seeing him may have changed since. */
