@@ -176,6 +176,7 @@ public final class CountsIfCounted {
         if (what > 1 && !now.isOne(one)) {
             return BAD;
         }
+        thought.become(now);
         think(n, step);
         if (what <= 1) {
             return what == 0 ? thought.good : thought.sum;
@@ -198,7 +199,6 @@ public final class CountsIfCounted {
     }
 
     private void think(int n, int step) {
-        thought.become(now);
         for (int i = 0; i < n; i++) {
             thought.pass(step);
         }
@@ -243,9 +243,7 @@ public final class CountsIfCounted {
         for (int house = 0; house < HOUSES; house++) {
             thought.become(now);
             thought.clerk = house;
-            for (int i = 0; i < n; i++) {
-                thought.pass(step);
-            }
+            think(n, step);
             if (thought.goodCount() > most) {
                 most = thought.goodCount();
                 best = house;

@@ -165,6 +165,15 @@ final class CountryTest {
         x.set(4, 4, 99);
         x.set(3, 4, 2);
         Due.is("MAKES: a WIDOW's 99 - 2 + 6 is 99 at most", x.told(4, 8), 99);
+        CountsIfCounted z = Due.under("counts 5; joys 0; goes 0;");
+        z.person(2, 9, 0, 0);
+        z.person(2, 5, 0, 0);
+        z.person(2, 4, 0, 0);
+        z.person(4, 9, 0, 0);
+        Due.is("MAKES: an ENEMY's is 0 at least", z.told(0, 8), 0);
+        Due.is("MAKES: an ENEMY's is 0", z.told(1, 8), 0);
+        Due.is("MAKES: an ENEMY's is 1", z.told(2, 8), 1);
+        Due.is("MAKES: a WIDOW's among others is 0 at least", z.told(3, 8), 0);
         CountsIfCounted y = Due.under("counts 25; joys 0; goes 0;");
         y.person(1, 0, 0, 0);
         y.person(3, 0, 0, 0);

@@ -76,6 +76,7 @@ final class FaceTest {
             for (Method m : c.getDeclaredMethods()) {
                 Due.that("rule 11: parameters of " + m, m.getParameterCount() <= 7);
                 Due.that("synthetic: " + m, !m.isSynthetic());
+                Due.that("rule 1: the name of " + m, Arrays.stream(METHODS).noneMatch(f -> f.contains(" " + m.getName() + "(")));
             }
         }
     }

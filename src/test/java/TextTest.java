@@ -110,6 +110,9 @@ final class TextTest {
         value("(9999*9999*22) < 0", 9999 * 9999 * 22 < 0 ? 1 : 0);
         value("1 - 2 < 0 - 0", 1);
         value("1\n+ \n2", 3);
+        value("0or 1and 0<1+1*(1or 1and 1<1+1*(0or 1and 1<1+1*(0or 1and 1<1+1*(0or 1and 1<1+1*(0or 1and 1<1+2*3)))))", 1);
+        value("0or 2and 3<4-5*(0or 2and 3<4-5*(0or 2and 3<4-5*(0or 2and 3<4-5*(0or 2and 3<4-5*(0or 2and 3<4-5*6)))))", 1);
+        value("0+7*(0or 1and 2<4-1*(0or 1and 2<4-1*(0or 1and 2<4-1*(0or 1and 2<4-1*(0or 1and 2<4-1*3)))))", 7);
     }
 
     private static void bounds() {
@@ -184,6 +187,13 @@ final class TextTest {
         fault("counts 1" + (char) 200 + ";", 8);
         fault("counts 1" + (char) 0 + ";", 8);
         fault("counts not;", 10);
+        fault("counts joyz;", 7);
+        fault("counts ajoy;", 7);
+        fault("counts joy{;", 10);
+        fault("counts joy`;", 10);
+        fault("counts 9:;", 8);
+        fault("counts 1]2;", 8);
+        fault("counts joy,1;", 10);
         fault("counts 1 not 2;", 9);
         fault("counts1;joys1;goes1!", 19);
         CountsIfCounted x = new CountsIfCounted();
