@@ -1,7 +1,14 @@
+import java.io.IOException;
+import java.nio.file.Files;
+import java.nio.file.Path;
+
 /** What tests share: answers that are due, texts that are fed, people that come. */
 final class Due {
+    private static final Path DOCUMENT = Path.of("../shared/DOC.md");
     private static int wrong = 0;
     private static int asked = 0;
+    private static String sentence = "";
+    private static String document;
 
     private Due() {
     }
@@ -10,8 +17,25 @@ final class Due {
         asked++;
         if (got != want) {
             wrong++;
-            System.out.println(call + " answered " + got + ", due is " + want);
+            System.out.println(sentence + call + " answered " + got + ", due is " + want);
         }
+    }
+
+    /** What is asked from here on is due by this sentence, which must stand in the document word by word. */
+    static void sentence(String words) {
+        sentence = "";
+        that("the document says: " + words, document().isEmpty() || document().contains(words));
+        sentence = "[" + words + "] ";
+    }
+
+    /** Empty where there is no document beside the project: the answers are due without it, too. */
+    private static String document() {
+        try {
+            document = document != null ? document : Files.exists(DOCUMENT) ? Files.readString(DOCUMENT) : "";
+        } catch (IOException broken) {
+            throw new IllegalStateException("can't read " + DOCUMENT, broken);
+        }
+        return document;
     }
 
     static void that(String what, boolean holds) {
