@@ -33,6 +33,8 @@ public final class CountsIfCounted {
     /** Six levels (5 of them open) with five values that wait at most, and the one at hand. */
     private static final int MOST_WAITING = 6 * 5 + 1;
 
+    /** From these numbers on run() is asked where each one is AT, and for its JOY. */
+    private static final int FIRST_WHERE = 10, FIRST_JOY = 20;
     private static final int MOST_RUN = 40, MOST_WHEN = 60, MOST_ROW = 6, MOST_BEGIN = 20;
     private static final int MOST_TOLD = 20, MOST_DRAWN = 40, MOST_SEEDS = 20, DAYS_OF_CHANCE = 10;
 
@@ -172,7 +174,8 @@ public final class CountsIfCounted {
         if (!isUpTo(n, MOST_RUN) || !isStep(step) || what < 0) {
             return BAD;
         }
-        int one = what >= 20 ? what - 20 : what - 10;
+        boolean isJoy = what >= FIRST_JOY;
+        int one = what - (isJoy ? FIRST_JOY : FIRST_WHERE);
         if (what > 1 && !now.isOne(one)) {
             return BAD;
         }
@@ -181,7 +184,7 @@ public final class CountsIfCounted {
         if (what <= 1) {
             return what == 0 ? thought.good : thought.sum;
         }
-        return thought.look(what >= 20 ? JOY : HOUSE, one);
+        return thought.look(isJoy ? JOY : HOUSE, one);
     }
 
     public int when(int house, int step) {

@@ -6,12 +6,8 @@ final class RefusalTest {
     private static final int BAD = -2, STATE = -3, FULL = -4, NOTHING = -11, OUTSIDE = -12, OTHER = -13, BELOW = -14;
     private static final long NO = -4611686018427387904L;
     private static final int[] HIGHEST = {999, 7, 255, 9, 99, 7, 99};
-    private static final String RULE = "counts 12 + joy * (day < 38); joys good - seen; goes number;";
 
-    /**
-     * The countries in which calls are refused. SHEETS of the BUSY one: 5 bytes and 20 shorts that are STEPS, 20 ints
-     * that are SUMS, one missing; of the FULL one: 40 bytes, 40 shorts, 40 ints, and 21 ints.
-     */
+    /** The countries in which calls are refused. */
     private enum At {
         EMPTY(0, 1), BUSY(4, 3), FILLED(5, 6);
 
@@ -26,69 +22,13 @@ final class RefusalTest {
         }
 
         final CountsIfCounted made() {
-            CountsIfCounted x = new CountsIfCounted();
-            if (people == 4) {
-                busy(x);
-            } else if (people == 5) {
-                filled(x);
-            }
-            return x;
+            return people == 4 ? Countries.busy() : people == 5 ? Countries.filled() : new CountsIfCounted();
         }
 
         void refuses(String call, long due, ToLongFunction<CountsIfCounted> asked) {
             CountsIfCounted x = made();
             Due.is(this + ": " + call, asked.applyAsLong(x), due);
             Due.that(this + ": " + call + " changes nothing", Everything.of(x).equals(untouched));
-        }
-    }
-
-    private static void busy(CountsIfCounted x) {
-        Due.textOf(x, "counts 5; joys 0; goes 1;");
-        x.person(0, 3, 20, 0);
-        x.person(1, 0, 0, 1);
-        x.image();
-        Due.textOf(x, RULE);
-        x.force(2);
-        x.person(4, 5, 60, 2);
-        x.person(5, 2, 98, 7);
-        x.set(0, 0, 37);
-        x.set(2, 0, 0b10010);
-        x.day(0);
-        x.day(1);
-        steps(x, 0, 0, 5);
-        steps(x, 1, 1, 20);
-        x.film(2, 1, 20);
-        for (char letter : "counts joy; joys 1; goes".toCharArray()) {
-            x.feed(letter);
-        }
-        for (char letter : " -seen;".toCharArray()) {
-            x.feed(letter);
-        }
-    }
-
-    private static void filled(CountsIfCounted x) {
-        for (int i = 0; i < 5; i++) {
-            Due.textOf(x, "counts " + i + ";joys 0;goes 1;");
-            x.person(i, i, 10 * i, 7 - i);
-        }
-        x.force(3);
-        x.set(2, 0, 255);
-        x.day(1);
-        x.image();
-        x.set(0, 0, 999);
-        for (int sheet = 0; sheet < 4; sheet++) {
-            x.sheet(sheet, Math.min(sheet, 2), sheet == 3 ? 21 : 40);
-            x.cell(sheet, sheet, sheet + 1);
-        }
-        for (int i = 0; i < 160; i++) {
-            x.feed('c');
-        }
-    }
-
-    private static void steps(CountsIfCounted x, int sheet, int sort, int n) {
-        x.sheet(sheet, sort, n);
-        for (int i = 0; i < n; i++) {
-            x.cell(sheet, i, i % 3 == 0 ? -1 : i % 2);
         }
     }
 
